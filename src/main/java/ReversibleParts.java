@@ -22,27 +22,15 @@ public final class ReversibleParts {
     }
 
     public boolean begin(int n) {
-        if (n < 1 || n > MOST_BITS) {
-            return false;
-        }
-        table.startWith(n);
-        return true;
+        return table.startWith(n);
     }
 
     public boolean put(int value, int to) {
-        if (!table.hasValue(value) || !table.hasValue(to)) {
-            return false;
-        }
-        table.set(value, to);
-        return true;
+        return table.set(value, to);
     }
 
     public boolean apply(int gate) {
-        if (!table.hasGate(gate)) {
-            return false;
-        }
-        table.change(gate);
-        return true;
+        return table.change(gate);
     }
 
     public int gate(int i) {
@@ -50,14 +38,11 @@ public final class ReversibleParts {
             return NONE;
         }
         int count = table.findGates();
-        if (i == NONE) {
-            return count;
-        }
-        return i >= 0 && i < count ? table.foundGate(count - 1 - i) : NONE;
+        return i == NONE ? count : table.foundFromLast(i);
     }
 
     public int look(int value) {
-        return table.hasValue(value) ? table.get(value) : NONE;
+        return table.get(value);
     }
 
     public int form(int function, int i) {
@@ -66,11 +51,7 @@ public final class ReversibleParts {
             return NONE;
         }
         long found = forms.least(bits, function);
-        int size = Forms.sizeOf(found);
-        if (i == NONE) {
-            return size;
-        }
-        return i >= 0 && i < size ? Forms.numberAt(found, i) : NONE;
+        return i == NONE ? Forms.sizeOf(found) : Forms.numberAt(found, i);
     }
 
     public int product(int number) {
@@ -82,19 +63,11 @@ public final class ReversibleParts {
     }
 
     public boolean program(int m) {
-        if (m < 1 || m > MOST_STEPS) {
-            return false;
-        }
-        steps.startWith(m);
-        return true;
+        return steps.startWith(m);
     }
 
     public boolean need(int step, int set) {
-        if (step < 0 || step >= steps.count() || set < 0 || set >= 1 << step) {
-            return false;
-        }
-        steps.setNeeds(step, set);
-        return true;
+        return steps.setNeeds(step, set);
     }
 
     public int move(int b, int i) {
@@ -102,14 +75,10 @@ public final class ReversibleParts {
             return NONE;
         }
         Moves found = steps.movesWithin(b);
-        int length = found.length();
-        if (length == 0) {
+        if (found.length() == 0) {
             return NONE;
         }
-        if (i == NONE) {
-            return length;
-        }
-        return i >= 0 && i < length ? found.at(i) : NONE;
+        return i == NONE ? found.length() : found.at(i);
     }
 
     public int marks() {
@@ -156,24 +125,27 @@ public final class ReversibleParts {
             }
         }
 
-        /** n is 1 .. MOST_BITS. */
-        void startWith(int n) {
+        boolean startWith(int n) {
+            if (n < 1 || n > MOST_BITS) {
+                return false;
+            }
             bits = n;
             size = 1 << n;
             for (int v = 0; v < MOST_VALUES; v++) {
                 to[v] = v;
             }
+            return true;
         }
 
         int bitCount() {
             return bits;
         }
 
-        boolean hasValue(int value) {
+        private boolean hasValue(int value) {
             return value >= 0 && value < size;
         }
 
-        boolean hasGate(int gate) {
+        private boolean hasGate(int gate) {
             if (gate < 0) {
                 return false;
             }
@@ -186,14 +158,20 @@ public final class ReversibleParts {
             return hasValue(value) ? to[value] : NONE;
         }
 
-        void set(int value, int next) {
-            if (hasValue(value)) {
-                to[value] = next;
+        boolean set(int value, int next) {
+            if (!hasValue(value) || !hasValue(next)) {
+                return false;
             }
+            to[value] = next;
+            return true;
         }
 
-        void change(int gate) {
+        boolean change(int gate) {
+            if (!hasGate(gate)) {
+                return false;
+            }
             changeAll(to, gate);
+            return true;
         }
 
         boolean isPermutation() {
@@ -217,8 +195,8 @@ public final class ReversibleParts {
             return foundCount;
         }
 
-        int foundGate(int i) {
-            return i >= 0 && i < foundCount ? found[i] : NONE;
+        int foundFromLast(int i) {
+            return i >= 0 && i < foundCount ? found[foundCount - 1 - i] : NONE;
         }
 
         private void settleRow(int v) {
@@ -305,8 +283,8 @@ public final class ReversibleParts {
         private static final int SIZE_SHIFT = 48;
         private static final int NUMBER_BITS = 7;
         private static final int NUMBER_MASK = 127;
-        /** A 1 in the place of each number. */
-        private static final long EACH_NUMBER = 1L | 1L << 7 | 1L << 14 | 1L << 21 | 1L << 28 | 1L << 35;
+        /** A 1 in the place of each number; forms of three bits, the longest to be joined, have three. */
+        private static final long EACH_NUMBER = 1L | 1L << NUMBER_BITS | 1L << 2 * NUMBER_BITS;
         private static final long ALL_NUMBERS = (1L << SIZE_SHIFT) - 1;
         /** Comes behind each form that there is: none needs more than six products. */
         private static final long BEHIND_ALL = 6L << SIZE_SHIFT | ALL_NUMBERS;
@@ -329,10 +307,12 @@ public final class ReversibleParts {
             return (int) (form >>> SIZE_SHIFT);
         }
 
-        /** i is 0 .. sizeOf(form) - 1. */
         static int numberAt(long form, int i) {
-            int behind = sizeOf(form) - 1 - i;
-            return (int) (form >>> NUMBER_BITS * behind) & NUMBER_MASK;
+            int size = sizeOf(form);
+            if (i < 0 || i >= size) {
+                return NONE;
+            }
+            return (int) (form >>> NUMBER_BITS * (size - 1 - i)) & NUMBER_MASK;
         }
 
         /** bits is 1 .. MOST_BITS, and the function one of that many bits. */
@@ -423,26 +403,33 @@ public final class ReversibleParts {
             needs = new int[MOST_STEPS];
             known = new Moves[MOST_STEPS + 1];
             nothing = new Moves(0);
+            left = new int[0];
+            queue = new int[0];
         }
 
-        /** m is 1 .. MOST_STEPS. */
-        void startWith(int m) {
+        boolean startWith(int m) {
+            if (m < 1 || m > MOST_STEPS) {
+                return false;
+            }
             count = m;
             for (int step = 0; step < MOST_STEPS; step++) {
                 needs[step] = 0;
             }
             forget();
+            return true;
         }
 
         int count() {
             return count;
         }
 
-        void setNeeds(int step, int set) {
-            if (step >= 0 && step < count) {
-                needs[step] = set;
-                forget();
+        boolean setNeeds(int step, int set) {
+            if (step < 0 || step >= count || set < 0 || set >= 1 << step) {
+                return false;
             }
+            needs[step] = set;
+            forget();
+            return true;
         }
 
         int fewestMarks() {
@@ -499,7 +486,7 @@ public final class ReversibleParts {
         }
 
         private Moves search(int most) {
-            makeRows();
+            makeRoom();
             int wanted = wantedSteps();
             spreadFromGoal(wanted, most);
             if (left[0] == 0) {
@@ -515,11 +502,12 @@ public final class ReversibleParts {
             return found;
         }
 
-        /** Made when first needed, since many objects never search. */
-        private void makeRows() {
-            if (left == null || queue == null) {
-                left = new int[MOST_MARKINGS];
-                queue = new int[MOST_MARKINGS];
+        /** Only as long as a program has asked for: many objects never search, or search little. */
+        private void makeRoom() {
+            int markings = 1 << count;
+            if (left.length < markings) {
+                left = new int[markings];
+                queue = new int[markings];
             }
         }
 
@@ -531,7 +519,7 @@ public final class ReversibleParts {
             queued = 0;
             enter(1 << (count - 1), 1);
             // behind the first way to the empty set, all that stands nearer to the goal is known
-            for (int next = 0; next < queued && left[0] == 0; next++) {
+            for (int next = 0; next < MOST_MARKINGS && next < queued && left[0] == 0; next++) {
                 spreadFrom(queue[next], wanted, most);
             }
         }
@@ -552,7 +540,7 @@ public final class ReversibleParts {
         }
 
         private void enter(int marked, int distance) {
-            if (queued < MOST_MARKINGS) {
+            if (queued < queue.length) {
                 left[marked] = distance;
                 queue[queued] = marked;
                 queued++;

@@ -6,6 +6,9 @@ public final class P10NeedTest {
             noSuchStep(m);
         }
         newNeedsForOld();
+        for (int m = 2; m <= 12; m++) {
+            nothingStaysKnown(m);
+        }
         wrongChangesNothing();
         Check.finish();
     }
@@ -53,6 +56,22 @@ public final class P10NeedTest {
         Check.due("need(2, 0)", x.need(2, 0), true);
         Check.due("the moves for 3 at last", Parts.moves(x, 3), new int[] {2});
         Check.due("marks() at last", x.marks(), 1);
+    }
+
+    /** Other needs behind each answer: the answers are other ones too. */
+    private static void nothingStaysKnown(int m) {
+        int[] needs = Parts.chain(m);
+        for (int b = 1; b <= m; b++) {
+            ReversibleParts x = Parts.program(needs);
+            int[] want = Oracle.moves(needs, b);
+            Check.due("move(" + b + ", NONE) of a chain of " + m, x.move(b, Parts.NONE), want == null ? Parts.NONE : want.length);
+            x.need(m - 1, 0);
+            Check.due("the moves for " + b + " with nothing needed", Parts.moves(x, b), new int[] {m - 1});
+            x.need(m - 1, 1);
+            Check.due("the moves for " + b + " with step 0 needed", Parts.moves(x, b), b < 2 ? null : new int[] {0, m - 1, 0});
+            x.program(m);
+            Check.due("the moves for " + b + " of a new program", Parts.moves(x, b), new int[] {m - 1});
+        }
     }
 
     private static void wrongChangesNothing() {

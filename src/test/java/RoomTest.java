@@ -18,7 +18,7 @@ public final class RoomTest {
         Check.due("searches", measured(0) < ROOM, true);
         Check.due("forms", measured(1) < ROOM, true);
         Check.due("gates", measured(2) < ROOM, true);
-        // a new object at every second call, and a search in each of them: four bytes an element
+        // a new object at every third call, and the longest rows in each of them: four bytes an element
         Check.due("objects", measured(3) < 4 * ROOM, true);
         Check.finish();
     }
@@ -69,9 +69,10 @@ public final class RoomTest {
     }
 
     private static void objects() {
-        for (int call = 0; call < CALLS; call += 2) {
+        for (int call = 0; call < CALLS; call += 3) {
             ReversibleParts x = new ReversibleParts();
-            x.move(1, 0);
+            x.program(12);
+            x.move(12, 0);
         }
     }
 }
