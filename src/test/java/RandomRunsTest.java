@@ -3,10 +3,14 @@ import java.util.Random;
 /** Runs of 512 mixed calls on one object, each answer against a plain model of the document. */
 public final class RandomRunsTest {
     private static final int RUNS = 300;
+    /** What an object answers behind its 512th call is free. */
     private static final int CALLS = 512;
+    /** A swap is three calls at most. */
+    private static final int MOST_AT_ONCE = 3;
 
     private final Random random;
     private final ReversibleParts x = new ReversibleParts();
+    private int calls = 0;
     private int n = 1;
     private int[] table = {0, 1};
     private int[] needs = {0};
@@ -18,14 +22,15 @@ public final class RandomRunsTest {
     public static void main(String[] args) {
         for (int seed = 0; seed < RUNS; seed++) {
             RandomRunsTest run = new RandomRunsTest(seed);
-            for (int call = 0; call < CALLS; call++) {
-                run.anyCall("run " + seed + " call " + call + ": ");
+            while (run.calls + MOST_AT_ONCE <= CALLS) {
+                run.anyCall("run " + seed + " call " + run.calls + ": ");
             }
         }
         Check.finish();
     }
 
     private void anyCall(String where) {
+        calls++;
         switch (random.nextInt(16)) {
             case 0 -> begin(where, random.nextInt(4) == 0 ? near(6) : n);
             case 1, 2 -> put(where, near(1 << n), near(1 << n));
@@ -84,8 +89,10 @@ public final class RandomRunsTest {
     /** Keeps a permutation one, so that there are gates to ask for. */
     private void swap(String where) {
         if (!Oracle.isPermutation(table)) {
+            calls++;
             begin(where, n);
         }
+        calls++;
         int v = random.nextInt(table.length);
         int w = random.nextInt(table.length);
         int atV = table[v];
