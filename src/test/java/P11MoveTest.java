@@ -6,7 +6,7 @@ public final class P11MoveTest {
         byHand();
         for (int m = 1; m <= 12; m++) {
             compare(Parts.chain(m));
-            compare(allAhead(m));
+            compare(Parts.allAhead(m));
         }
         eachProgramOfFour();
         Random random = new Random(11);
@@ -28,14 +28,6 @@ public final class P11MoveTest {
         Check.due("steps that the last one needs not", Parts.moves(fork, 4), new int[] {3});
         ReversibleParts two = Parts.program(0, 0, 0, 5);
         Check.due("two needed, one not", Parts.moves(two, 3), new int[] {0, 2, 3, 0, 2});
-    }
-
-    private static int[] allAhead(int m) {
-        int[] needs = new int[m];
-        for (int step = 0; step < m; step++) {
-            needs[step] = (1 << step) - 1;
-        }
-        return needs;
     }
 
     private static void eachProgramOfFour() {

@@ -22,12 +22,32 @@ final class Parts {
     }
 
     static ReversibleParts program(int... needs) {
-        ReversibleParts x = new ReversibleParts();
+        return programOf(new ReversibleParts(), needs);
+    }
+
+    static ReversibleParts programOf(ReversibleParts x, int... needs) {
         Check.due("program(" + needs.length + ")", x.program(needs.length), true);
         for (int step = 0; step < needs.length; step++) {
             Check.due("need(" + step + ", " + needs[step] + ")", x.need(step, needs[step]), true);
         }
         return x;
+    }
+
+    /** Each value has the next one, the last one has 0: a permutation in which none has itself. */
+    static int[] turned(int n) {
+        int[] to = new int[1 << n];
+        for (int v = 0; v < to.length; v++) {
+            to[v] = (v + 1) % to.length;
+        }
+        return to;
+    }
+
+    static int[] allAhead(int m) {
+        int[] needs = new int[m];
+        for (int step = 0; step < m; step++) {
+            needs[step] = (1 << step) - 1;
+        }
+        return needs;
     }
 
     static int[] chain(int m) {
