@@ -9,6 +9,7 @@ public final class Edge00TermsTest {
         gateNumber();
         tableAtFirst();
         noTwoAlike();
+        rowByRow();
         bitsThatAreMissing();
         bitsThatAreTooMany();
         gatesMakeTheTable();
@@ -123,6 +124,19 @@ public final class Edge00TermsTest {
             }
             Check.due("with all alike", Parts.table(n, new int[size]).total(2), 0);
         }
+    }
+
+    private static void rowByRow() {
+        Check.sentence("GATES are done to all VALUES of THE TABLE, so that it becomes, for v 0, 1, .., v at v: with t what is at v then");
+        for (int n = 1; n <= 4; n++) {
+            Check.due("rows that have v at v ask for none", Parts.gates(Parts.values(n)), new int[0]);
+        }
+        // row 0 has the last value, and its gates bring all other rows to what they ask for
+        Check.due("the first row alone", Parts.gates(Parts.table(2, 3, 2, 1, 0)), new int[] {16, 0});
+        // only the rows 14 and 15 are changed: row 15 needs nothing when row 14 is done
+        Check.due("the last rows", Parts.gates(Parts.table(4, 0, 1, 2, 3, 4, 5, 6, 7, 8, 9, 10, 11, 12, 13, 15, 14)), new int[] {14});
+        // row 0 has 1, then 0 2 1 3 stand; row 1 has 2, asks for two, then 0 1 3 2 stand; row 2 has 3
+        Check.due("rows that others have changed", Parts.gates(Parts.table(2, 1, 3, 0, 2)), new int[] {2, 17, 2, 0});
     }
 
     private static void bitsThatAreMissing() {

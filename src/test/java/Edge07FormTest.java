@@ -36,6 +36,21 @@ public final class Edge07FormTest {
             Check.due("the first one", x.form(most[0], 0), Oracle.forms(n)[most[0]][0]);
             Check.due("the last one", x.form(most[0], most[1] - 1), Oracle.forms(n)[most[0]][most[1] - 1]);
         }
+        eachBehindEachOther();
+    }
+
+    /** The same object, with more bits and with fewer bits behind each number of bits. */
+    private static void eachBehindEachOther() {
+        for (int first = 1; first <= 4; first++) {
+            for (int second = 1; second <= 4; second++) {
+                ReversibleParts x = new ReversibleParts();
+                for (int n : new int[] {first, second}) {
+                    x.begin(n);
+                    int most = longest(n)[0];
+                    Check.due("of " + n + " bits, of " + first + " and then " + second, Parts.form(x, most), Oracle.forms(n)[most]);
+                }
+            }
+        }
     }
 
     private static void noSuchFunction() {
