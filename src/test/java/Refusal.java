@@ -23,7 +23,11 @@ final class Refusal {
         int[] before = State.of(x);
         Check.due(where, call.on(x), false);
         Check.due("the answers behind " + where, State.of(x), before);
+        ReversibleParts unrefused = Parts.programOf(Parts.table(n, table), needs);
+        Check.due("good calls behind " + where, State.behind(x), State.behind(unrefused));
+        // an object that was asked ahead of the call might only remember what it answered
         ReversibleParts unasked = Parts.programOf(Parts.table(n, table), needs);
-        Check.due("good calls behind " + where, State.behind(x), State.behind(unasked));
+        Check.due(where + ", not asked ahead", call.on(unasked), false);
+        Check.due("the first answers behind " + where, State.of(unasked), before);
     }
 }
