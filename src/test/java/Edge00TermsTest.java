@@ -330,7 +330,7 @@ public final class Edge00TermsTest {
     }
 
     private static void fewestMoves() {
-        Check.sentence("the fewest, with at most b MARKS at all times");
+        Check.sentence("THE MOVES for b: the fewest, with at most b MARKS at all times");
         int[] chainOfFive = {Parts.NONE, Parts.NONE, Parts.NONE, Parts.NONE, 11, 9, 9};
         ReversibleParts x = Parts.program(Parts.chain(5));
         for (int b = 0; b < chainOfFive.length; b++) {
