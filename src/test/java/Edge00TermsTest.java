@@ -124,6 +124,18 @@ public final class Edge00TermsTest {
             }
             Check.due("with all alike", Parts.table(n, new int[size]).total(2), 0);
         }
+        // as many ones in each bit as a permutation has, and the same sum
+        Check.due("two and two alike, the outer ones left out", Parts.table(2, 1, 1, 2, 2).total(2), 0);
+        Check.due("two and two alike, the inner ones left out", Parts.table(2, 0, 3, 3, 0).total(2), 0);
+        Check.due("two and two alike of 16", Parts.table(4, 0, 1, 2, 3, 4, 5, 6, 6, 9, 9, 10, 11, 12, 13, 14, 15).total(2), 0);
+        eachTableOfTwoBits();
+    }
+
+    private static void eachTableOfTwoBits() {
+        for (int number = 0; number < 256; number++) {
+            int[] table = {number & 3, number >> 2 & 3, number >> 4 & 3, number >> 6};
+            Check.due("total(2) of table " + number, Parts.table(2, table).total(2), Oracle.isPermutation(table) ? 1 : 0);
+        }
     }
 
     private static void rowByRow() {

@@ -18,9 +18,11 @@ import java.util.stream.Stream;
 public final class SentencesTest {
     private static final Path DOCUMENT = Path.of("../shared/DOC.md");
     private static final Path TESTS = Path.of("src/test/java");
+    private static final Pattern PROMISE = Pattern.compile("Promise (\\d+): .*");
     private static final Pattern NAMED = Pattern.compile("Check\\.sentence\\(\"([^\"]*)\"\\);");
-    /** What a section may have beside its sentences: how its call is written, and what a term is called. */
-    private static final Pattern NO_SENTENCE = Pattern.compile("`[^`]*`: |ROW BY ROW: |THE FORM of a FUNCTION: |[\\s;,.()]+");
+    /** Beside its sentences a section has how its call is written, a term's name, or what the class is for. */
+    private static final Pattern NO_SENTENCE = Pattern.compile(
+            "`[^`]*`: |ROW BY ROW: |THE FORM of a FUNCTION: |Work that can be taken back: [^.]*\\.|[\\s;,.()]+");
 
     private final Map<String, List<String>> namedIn = new HashMap<>();
 
@@ -45,21 +47,30 @@ public final class SentencesTest {
         Set<String> asked = new TreeSet<>();
         for (String section : document.split("(?m)^## ")) {
             String heading = section.lines().findFirst().orElse("");
-            String body = section.substring(heading.length()).strip();
-            Matcher promise = Pattern.compile("Promise (\\d+): .*").matcher(heading);
-            if (promise.matches()) {
-                String test = String.format("Edge%02d", Integer.parseInt(promise.group(1)));
-                allNamed(test, heading, body);
+            String test = testOf(heading);
+            if (!test.isEmpty()) {
                 asked.add(test);
-            } else if (heading.equals("Terms")) {
-                allNamed("Edge00", heading, body);
-                asked.add("Edge00");
-            } else if (heading.equals("What it is")) {
-                allNamed("EdgeLastCall", heading, body.substring(body.indexOf("An object")));
-                asked.add("EdgeLastCall");
+                allNamed(test, heading, section.substring(heading.length()).strip());
             }
         }
-        Check.due("sections that have a test", asked.size(), 15);
+        Check.due("sections that have a test of their own", asked.size(), 15);
+        for (String test : namedIn.keySet()) {
+            for (String words : asked.contains(test) ? List.<String>of() : namedIn.get(test)) {
+                Check.due(test + ": '" + words + "' stands in the document", document.contains(words), true);
+            }
+        }
+    }
+
+    private static String testOf(String heading) {
+        Matcher promise = PROMISE.matcher(heading);
+        if (promise.matches()) {
+            return String.format("Edge%02d", Integer.parseInt(promise.group(1)));
+        }
+        return switch (heading) {
+            case "Terms" -> "Edge00";
+            case "What it is" -> "EdgeLastCall";
+            default -> "";
+        };
     }
 
     /** The words of a test stand in its own section, or among the terms that the section uses. */
